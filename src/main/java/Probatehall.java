@@ -19,6 +19,10 @@ public final class Probatehall {
   private static final int TWELFTHS = 12;
   private static final int DAYS_UNBORN = 300;
   private static final int NONE = -1;
+
+  /** More than the greatest divisor of any two long numbers needs. */
+  private static final int MOST_STEPS = 200;
+
   private static final char BY_STOCKS = 's';
   private static final char BY_HEADS = 'h';
   private static final char BY_FRACTIONS = 'f';
@@ -831,7 +835,7 @@ public final class Probatehall {
     }
 
     private void shareByStocks(People people, int dead) {
-      int spouseBottom = 1;
+      int spouseBottom;
       // The dead one never takes: a line of this one is a line of a child. Without one it is left aside by itself.
       if (hasLine[dead]) {
         spouseBottom = 3;
@@ -963,16 +967,16 @@ public final class Probatehall {
       bottom[row] = sumBottom / divisor;
     }
 
-    /** At least 1, so that it can divide whatever comes. */
+    /** Of numbers not below 0; at least 1, so that it can divide whatever comes. */
     private static long greatestDivisor(long one, long other) {
-      long greater = Math.abs(one);
-      long lesser = Math.abs(other);
-      for (int step = 0; step < 200 && lesser > 0; step++) {
+      long greater = one;
+      long lesser = other;
+      for (int step = 0; step < MOST_STEPS && lesser > 0; step++) {
         long rest = greater % lesser;
         greater = lesser;
         lesser = rest;
       }
-      return Math.max(1, greater);
+      return greater > 0 ? greater : 1;
     }
   }
 

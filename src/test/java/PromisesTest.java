@@ -1095,6 +1095,52 @@ public final class PromisesTest {
     due(100001.0 / 3.0, hall::meanValue);
   }
 
+  static void promise32OnTheDayNought() {
+    Probatehall hall = hall('s', 3);
+    hall.marry(0, 1, 0);
+    hall.part(0, 0);
+    hall.thing(0, 8, false, 0);
+    hall.thing(0, 5, false, 0);
+    hall.give(0, 1, 1);
+    hall.give(1, 1, 0);
+    hall.debt(0, 0, 16);
+    hall.will(0, 0, false);
+    hall.die(1, 90);
+    due(0, () -> hall.governs(0, 1));
+    hall.die(0, 0);
+    due(-1, () -> hall.spouse(0, 0));
+    due(0, () -> hall.inForce(0, 0));
+    due(0, () -> hall.governs(0, 0));
+    due(-1, () -> hall.governs(0, 1));
+    due(-1, () -> hall.governs(1, 0));
+    due(0, () -> hall.governs(1, 1));
+    due(0.5f, hall::paidShare);
+    due(true, hall::isConsistent);
+  }
+
+  static void promise28ToThePersonNought() {
+    Probatehall hall = new Probatehall();
+    hall.land('s', 12, 0, false, false, false);
+    hall.person(0, -1, -1);
+    hall.person(0, -1, -1);
+    hall.person(0, -1, -1);
+    hall.marry(0, 1, 3);
+    hall.thing(1, 10, false, 0);
+    hall.thing(1, 10, false, 0);
+    hall.die(1, 9);
+    dueGets(hall, 1, 0, 20, 0, 0, 0);
+    hall.will(1, 5, true);
+    hall.clause(0, 'r', 1, 2, 0);
+    due(20, () -> hall.claims(1, 0, 0));
+    dueGets(hall, 1, 0, 20, 0, 0, 0);
+    hall.part(0, 8);
+    dueGets(hall, 1, 0, 0, 0, 20, 0);
+    hall.clause(0, 't', 0, 0, -1);
+    dueGets(hall, 1, 0, 10, 0, 10, 0);
+    hall.setUnworthy(2, 1, true);
+    dueGets(hall, 1, 0, 20, 0, 0, 0);
+  }
+
   static void promise32IsConsistent() {
     for (char system : "shfe".toCharArray()) {
       Probatehall hall = family(system);

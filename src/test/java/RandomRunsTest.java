@@ -27,12 +27,15 @@ public final class RandomRunsTest {
   private final int spanOfDays;
   private final int spanOfValues;
   private final boolean errs;
+  /** The one around whom most of a run goes, so that rich estates come about. */
+  private final int chief;
 
   private RandomRunsTest(long seed) {
     random = new Random(seed);
     spanOfDays = new int[] {4, 40, 900, 99999}[random.nextInt(4)];
     spanOfValues = new int[] {5, 60, 1000, 99999}[random.nextInt(4)];
     errs = random.nextInt(4) == 0;
+    chief = random.nextInt(6);
   }
 
   public static void main(String[] args) {
@@ -145,6 +148,10 @@ public final class RandomRunsTest {
     return below(people);
   }
 
+  private int chiefOrOther() {
+    return chief < people && random.nextInt(3) > 0 ? chief : who();
+  }
+
   private int whoOrNone() {
     return random.nextInt(3) == 0 ? -1 : who();
   }
@@ -168,25 +175,26 @@ public final class RandomRunsTest {
           flag(), flag(), flag()};
       case "taxes" -> new int[] {below(lands), upTo(0, 99), upTo(0, 99)};
       case "person" -> new int[] {day(), parent(), parent()};
-      case "die" -> new int[] {who(), day()};
-      case "marry" -> new int[] {who(), who(), day()};
+      case "die" -> new int[] {random.nextInt(4) == 0 ? chiefOrOther() : who(), day()};
+      case "marry" -> new int[] {chiefOrOther(), who(), day()};
       case "part" -> new int[] {below(marriages), day()};
-      case "live" -> new int[] {who(), below(lands), day()};
-      case "setUnworthy" -> new int[] {who(), who(), flag()};
-      case "renounce" -> new int[] {who(), who()};
-      case "thing" -> new int[] {who(), value(), flag(), below(lands)};
+      case "live" -> new int[] {chiefOrOther(), below(lands), day()};
+      case "setUnworthy" -> new int[] {who(), chiefOrOther(), flag()};
+      case "renounce" -> new int[] {who(), chiefOrOther()};
+      case "thing" -> new int[] {chiefOrOther(), value(), flag(), below(lands)};
       case "give" -> new int[] {below(things), who(), day()};
-      case "debt" -> new int[] {who(), upTo(0, 3), value()};
-      case "will" -> new int[] {who(), day(), flag()};
+      case "debt" -> new int[] {chiefOrOther(), upTo(0, 3), value()};
+      case "will" -> new int[] {chiefOrOther(), day(), flag()};
       case "revoke" -> new int[] {below(wills)};
       case "clause" -> clauseArgs();
       case "livedIn" -> new int[] {who(), day()};
-      case "takes" -> new int[] {who(), who(), below(lands)};
-      case "spouse", "pool", "free" -> new int[] {who(), below(lands)};
-      case "shareTop", "shareBottom", "gets" -> new int[] {who(), below(lands), random.nextInt(8) == 0 ? -1 : who()};
-      case "claims", "tax" -> new int[] {who(), below(lands), who()};
-      case "governs" -> new int[] {below(things), who()};
-      case "inForce" -> new int[] {who(), below(3)};
+      case "takes" -> new int[] {who(), chiefOrOther(), below(lands)};
+      case "spouse", "pool", "free" -> new int[] {chiefOrOther(), below(lands)};
+      case "shareTop", "shareBottom", "gets" ->
+          new int[] {chiefOrOther(), below(lands), random.nextInt(8) == 0 ? -1 : who()};
+      case "claims", "tax" -> new int[] {chiefOrOther(), below(lands), who()};
+      case "governs" -> new int[] {below(things), chiefOrOther()};
+      case "inForce" -> new int[] {chiefOrOther(), below(3)};
       case "paidOf" -> new int[] {below(debts)};
       default -> new int[0];
     };
