@@ -37,12 +37,29 @@ public final class LanguageTest {
     Matcher statics = Pattern.compile("(?m)^\\s+private static (?!final )[^(]*[;=]").matcher(code);
     need(!statics.find(), "static state that is not final");
     need(code.split("\\bclass ").length - 1 <= MOST_CLASSES, "too many classes");
+    compareNames(code);
     measureMethods(code.split("\n"));
     measureFields(code);
     System.out.println("rules of the language: " + wrong + " wrong");
     if (wrong > 0) {
       System.exit(1);
     }
+  }
+
+  /** Only the face bears the names of the face. */
+  private static void compareNames(String code) {
+    Matcher face = Pattern.compile("(?m)^  public [\\w]+ (\\w+)\\(").matcher(code);
+    int names = 0;
+    while (face.find()) {
+      names++;
+      Pattern head = Pattern.compile("(?m)^ +(?!return|new|else)[\\w\\[\\] ]*[\\w\\]] " + face.group(1) + "\\([^;]*\\{$");
+      int bearers = 0;
+      for (Matcher found = head.matcher(code); found.find();) {
+        bearers++;
+      }
+      need(bearers == 1, "so many methods of the name " + face.group(1) + ": " + bearers);
+    }
+    need(names == 31, "so many public methods: " + names);
   }
 
   private static void measureMethods(String[] lines) {

@@ -1,77 +1,11 @@
 import java.lang.reflect.Constructor;
 import java.lang.reflect.Method;
 import java.lang.reflect.Modifier;
-import java.util.NoSuchElementException;
 
 /** Each promise by itself: ordinary inputs, the edges that the document names, and wrong inputs. */
-public final class PromisesTest {
-  private static final Class<?> INDEX = IndexOutOfBoundsException.class;
-  private static final Class<?> ARGUMENT = IllegalArgumentException.class;
-  private static final Class<?> STATE = IllegalStateException.class;
-  private static final Class<?> NO_ELEMENT = NoSuchElementException.class;
-  private static final Class<?> ARITHMETIC = ArithmeticException.class;
-  private static final int MIN = Integer.MIN_VALUE;
-  private static final int MAX = Integer.MAX_VALUE;
-
-  private static int wrong;
-  private static String promise = "";
-
-  private interface Call {
-    Object on();
-  }
-
-  /** Due is a number, a truth, or the class of the exception. */
-  private static void due(Object due, Call call) {
-    Object found;
-    try {
-      found = call.on();
-    } catch (RuntimeException e) {
-      found = e.getClass();
-    }
-    if (!due.equals(found)) {
-      wrong++;
-      StackTraceElement line = new Throwable().getStackTrace()[1];
-      System.out.println("promise " + promise + ", line " + line.getLineNumber() + ": " + found + ", due is " + due);
-    }
-  }
-
-  /** A hall with one land of a system and some people born on the day 0 without parents. */
-  private static Probatehall hall(char system, int people) {
-    Probatehall hall = new Probatehall();
-    hall.land(system, 0, 0, false, false, false);
-    for (int count = 0; count < people; count++) {
-      hall.person(0, -1, -1);
-    }
-    return hall;
-  }
-
-  private static void dueShare(Probatehall hall, int dead, int land, int person, long top, long bottom) {
-    due(top, () -> hall.shareTop(dead, land, person));
-    due(bottom, () -> hall.shareBottom(dead, land, person));
-  }
-
-  private static void dueGets(Probatehall hall, int dead, int land, int... amounts) {
-    for (int person = 0; person < amounts.length - 1; person++) {
-      int who = person;
-      due(amounts[who], () -> hall.gets(dead, land, who));
-    }
-    due(amounts[amounts.length - 1], () -> hall.gets(dead, land, -1));
-    due(true, hall::isConsistent);
-  }
-
+public final class PromisesTest extends Checks {
   public static void main(String[] args) throws Exception {
-    int promises = 0;
-    for (Method method : PromisesTest.class.getDeclaredMethods()) {
-      if (method.getName().startsWith("promise") && method.getParameterCount() == 0) {
-        promise = method.getName().substring("promise".length());
-        method.invoke(null);
-        promises++;
-      }
-    }
-    System.out.println(promises + " tests of promises, " + wrong + " wrong");
-    if (wrong > 0 || promises < 32) {
-      System.exit(1);
-    }
+    runTests(PromisesTest.class, 51, "promise");
   }
 
   static void promise01NewObject() {
@@ -700,28 +634,21 @@ public final class PromisesTest {
     hall.will(0, 40, false);
     hall.will(1, 45, true);
     hall.will(0, 10, true);
-    dueWills(hall, 2, 3, 6, 4, -1, -1);
+    dueWills(hall, 0, 2, 3, 6, 4);
     hall.revoke(2);
-    dueWills(hall, 8, 1, 0, 3, 6, 4, -1);
+    dueWills(hall, 0, 8, 1, 0, 3, 6, 4);
     hall.revoke(8);
-    dueWills(hall, 1, 0, 3, 6, 4, -1);
+    dueWills(hall, 0, 1, 0, 3, 6, 4);
     due(-1, () -> hall.inForce(0, MAX));
     hall.marry(1, 0, 30);
     hall.marry(1, 0, 51);
-    dueWills(hall, 1, 0, 3, 6, 4, -1);
+    dueWills(hall, 0, 1, 0, 3, 6, 4);
     hall.live(0, 1, 49);
-    dueWills(hall, 0, 3, 6, 4, -1);
+    dueWills(hall, 0, 0, 3, 6, 4);
     hall.part(0, 31);
-    dueWills(hall, 0, 3, 6, 4, -1);
+    dueWills(hall, 0, 0, 3, 6, 4);
     hall.marry(0, 1, 50);
-    dueWills(hall, 4, -1);
-  }
-
-  private static void dueWills(Probatehall hall, int... wills) {
-    for (int index = 0; index < wills.length; index++) {
-      int at = index;
-      due(wills[at], () -> hall.inForce(0, at));
-    }
+    dueWills(hall, 0, 4);
   }
 
   static void promise24Pool() {

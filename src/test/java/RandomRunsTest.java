@@ -1,5 +1,8 @@
+import java.util.ArrayList;
 import java.util.Arrays;
+import java.util.Collections;
 import java.util.HashSet;
+import java.util.List;
 import java.util.NoSuchElementException;
 import java.util.Random;
 import java.util.Set;
@@ -10,6 +13,9 @@ public final class RandomRunsTest {
     "land", "taxes", "person", "die", "marry", "part", "live", "setUnworthy", "renounce", "thing", "give", "debt",
     "will", "revoke", "clause"};
   private static final int[] TELLING_OFTEN = {2, 1, 8, 4, 3, 1, 4, 2, 1, 7, 2, 4, 3, 1, 9};
+  /** How often each is told in a run that fills a hall: one call more than there may be of each. */
+  private static final int[] TELLING_TO_FILL = {5, 3, 17, 8, 21, 3, 61, 5, 3, 21, 8, 21, 13, 1, 41};
+  private static final String[] LIMITED = {"land", "person", "marry", "live", "thing", "debt", "will", "clause"};
   private static final String[] ASKING = {
     "livedIn", "takes", "spouse", "shareTop", "shareBottom", "governs", "inForce", "pool", "free", "paidOf",
     "claims", "gets", "tax", "paidShare", "meanValue", "isConsistent"};
@@ -27,6 +33,8 @@ public final class RandomRunsTest {
   private final int spanOfDays;
   private final int spanOfValues;
   private final boolean errs;
+  /** What is told first in a run that fills a hall; empty in other runs. */
+  private final List<String> filling = new ArrayList<>();
   /** The one around whom most of a run goes, so that rich estates come about. */
   private final int chief;
 
@@ -36,6 +44,12 @@ public final class RandomRunsTest {
     spanOfValues = new int[] {5, 60, 1000, 99999}[random.nextInt(4)];
     errs = random.nextInt(4) == 0;
     chief = random.nextInt(6);
+    if (seed % 5 == 0) {
+      for (int kind = 0; kind < TELLING.length; kind++) {
+        filling.addAll(Collections.nCopies(TELLING_TO_FILL[kind], TELLING[kind]));
+      }
+      Collections.shuffle(filling, random);
+    }
   }
 
   public static void main(String[] args) {
@@ -55,6 +69,9 @@ public final class RandomRunsTest {
     for (String call : ASKING) {
       needSeen(seen, call + " answered");
     }
+    for (String call : LIMITED) {
+      needSeen(seen, call + " threw the state's");
+    }
     System.out.println(runs + " runs, all answers alike");
   }
 
@@ -68,18 +85,27 @@ public final class RandomRunsTest {
   private String run(Set<String> seen) {
     for (int count = 0; count < 512; count++) {
       String name = count < 12 ? new String[] {"land", "person", "person"}[count % 3]
-          : random.nextInt(512) > count * 2 ? pick(TELLING, TELLING_OFTEN)
-          : random.nextInt(5) == 0 ? pick(TELLING, TELLING_OFTEN) : pick(ASKING, ASKING_OFTEN);
+          : filling.isEmpty() ? nextOfFreeRun(count) : nextOfFillingRun(count - 12);
       int[] args = args(name);
       Object due = answer(() -> onModel(name, args));
       Object found = answer(() -> onHall(name, args));
-      seen.add(name + (due instanceof Class ? " threw" : " answered"));
+      seen.add(name + (due == IllegalStateException.class ? " threw the state's"
+          : due instanceof Class ? " threw" : " answered"));
       if (!due.equals(found)) {
         return "call " + count + ", " + name + Arrays.toString(args) + " answered " + found + ", due is " + due;
       }
       note(name, due);
     }
     return hall.isConsistent() ? null : "the hall is not consistent";
+  }
+
+  private String nextOfFreeRun(int count) {
+    boolean tells = random.nextInt(512) > count * 2 || random.nextInt(5) == 0;
+    return tells ? pick(TELLING, TELLING_OFTEN) : pick(ASKING, ASKING_OFTEN);
+  }
+
+  private String nextOfFillingRun(int count) {
+    return count < filling.size() ? filling.get(count) : pick(ASKING, ASKING_OFTEN);
   }
 
   private String pick(String[] names, int[] often) {
