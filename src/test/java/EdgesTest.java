@@ -3,7 +3,7 @@ public final class EdgesTest extends Checks {
   private static final char[] SYSTEMS = {'s', 'h', 'f', 'e'};
 
   public static void main(String[] args) throws Exception {
-    runTests(EdgesTest.class, 118, "people", "lands", "takers", "shares", "laws", "wills", "paying", "forced", "taxes",
+    runTests(EdgesTest.class, 125, "people", "lands", "takers", "shares", "laws", "wills", "paying", "forced", "taxes",
         "figures", "found", "empty", "full");
   }
 
@@ -440,6 +440,28 @@ public final class EdgesTest extends Checks {
     }
   }
 
+  /** "All shares under each law are one together in exact fractions": added up from the answers, each by itself. */
+  static void sharesAreOneTogether() {
+    for (Told told : Told.values()) {
+      for (int number = 0; number < 2 * told.lands; number++) {
+        int dead = number % 2 == 0 ? 0 : 2;
+        int land = number / 2;
+        Probatehall hall = told.hall();
+        HallModel.Fraction sum = HallModel.Fraction.ZERO;
+        for (int person = -1; person < told.people; person++) {
+          long top = hall.shareTop(dead, land, person);
+          long bottom = hall.shareBottom(dead, land, person);
+          HallModel.Fraction lowest = HallModel.Fraction.of(top, bottom);
+          // "in lowest terms", and "0 for no share" over "1 for no share".
+          due(top + " " + bottom, () -> lowest.top() + " " + lowest.bottom());
+          sum = sum.plus(lowest);
+        }
+        HallModel.Fraction all = sum;
+        due(HallModel.Fraction.ONE, () -> all);
+      }
+    }
+  }
+
   /** 0 and 1 are parents of 2, and of 3 and 4 as well; 5 is a child of 1 alone, 6 of 3. */
   private static Probatehall siblings(char system) {
     Probatehall hall = hall(system, 2);
@@ -571,6 +593,23 @@ public final class EdgesTest extends Checks {
     hall.die(0, 50);
     dueShare(hall, 0, 0, 1, 2, 3);
     dueShare(hall, 0, 0, 2, 1, 3);
+  }
+
+  /** A spouse who is the only one below the dead one has all, whatever the parts are. */
+  static void sharesOfASpouseWhoIsTheOnlyChild() {
+    for (char system : SYSTEMS) {
+      Probatehall hall = hall(system, 1);
+      hall.person(10, 0, -1);
+      hall.marry(0, 1, 20);
+      hall.die(0, 50);
+      due(1, () -> hall.spouse(0, 0));
+      dueShare(hall, 0, 0, 1, 1, 1);
+      hall.person(11, 0, -1);
+      // By stocks 1/3 and half of 2/3; 1/4 and 1/3 of 11/12; the eldest child has all as a child.
+      dueShare(hall, 0, 0, 1, system == 's' ? 2 : system == 'f' ? 7 : 1, system == 's' ? 3 : system == 'f' ? 11
+          : system == 'h' ? 2 : 1);
+      due(true, hall::isConsistent);
+    }
   }
 
   /** "the spouse, and all who take of the nearest descendants by generations of whom some take". */
@@ -1337,6 +1376,33 @@ public final class EdgesTest extends Checks {
     dueGets(hall, 0, 1, 0, 0, 0, 0, 9);
   }
 
+  /** "what is paid out of a pool is the pool": what debts take of the pools is paid, and what is free all get. */
+  static void payingIsThePool() {
+    for (Told told : Told.values()) {
+      for (int dead = 0; dead <= 2; dead += 2) {
+        Probatehall hall = told.hall();
+        int left = 0;
+        for (int land = 0; land < told.lands; land++) {
+          int out = 0;
+          for (int person = -1; person < told.people; person++) {
+            out += hall.gets(dead, land, person);
+          }
+          int all = out;
+          int where = land;
+          int whose = dead;
+          due(all, () -> hall.free(whose, where));
+          left += hall.pool(dead, land) - hall.free(dead, land);
+        }
+        for (int debt = 0; debt < told.debts; debt++) {
+          int owing = told == Told.FULL ? debt % 4 : debt == 2 ? 2 : 0;
+          left -= owing == dead ? hall.paidOf(debt) : 0;
+        }
+        int rest = left;
+        due(0, () -> rest);
+      }
+    }
+  }
+
   /** "Sharing is to the last coin": coins left go to the greatest remainders of the shares, then to the first ones. */
   static void payingLastCoinsOfShares() {
     Probatehall hall = hall('f', 2);
@@ -1571,6 +1637,35 @@ public final class EdgesTest extends Checks {
     dueGets(hall, 1, 0, 42, 0, 30, 18, 0);
   }
 
+  /** "of the own share": all of it, of a spouse who is a parent too. */
+  static void forcedSharesOfASpouseWhoIsAParent() {
+    Probatehall hall = hall('f', 12, 2);
+    hall.person(10, 0, 1);
+    hall.person(0, -1, -1);
+    hall.marry(2, 1, 40);
+    hall.thing(2, 70, false, 0);
+    hall.will(2, 40, true);
+    hall.clause(0, 'r', 1, 3, -1);
+    hall.die(2, 50);
+    due(50, () -> hall.claims(2, 0, 1));
+    due(0, () -> hall.claims(2, 0, 0));
+    dueGets(hall, 2, 0, 0, 50, 0, 20, 0);
+    hall.part(0, 50);
+    due(0, () -> hall.claims(2, 0, 1));
+    dueGets(hall, 2, 0, 0, 0, 0, 70, 0);
+  }
+
+  /** "Who gets less out of this pool": what one gets out of another pool is not looked at. */
+  static void forcedSharesLookAtThisPoolAlone() {
+    Probatehall hall = forcing(6, 100);
+    hall.land('s', 0, 0, false, false, false);
+    hall.thing(0, 400, true, 1);
+    hall.clause(0, 't', 1, 1, -1);
+    hall.die(0, 50);
+    dueGets(hall, 0, 1, 0, 400, 0, 0, 0);
+    dueGets(hall, 0, 0, 0, 25, 25, 50, 0);
+  }
+
   /** "a land has forced twelfths": each law looks at its own pool alone. */
   static void forcedSharesByLands() {
     Probatehall hall = forcing(6, 100);
@@ -1623,6 +1718,44 @@ public final class EdgesTest extends Checks {
     // A spouse who has parted is another one.
     hall.part(0, 50);
     due(50, () -> hall.tax(2, 0, 9));
+  }
+
+  /** "Of what somebody gets": with what was missing of a claim, and without what others were missing. */
+  static void taxesOfForcedShares() {
+    Probatehall hall = forcing(6, 100);
+    hall.taxes(0, 20, 50);
+    due(5, () -> hall.tax(0, 0, 1));
+    due(5, () -> hall.tax(0, 0, 2));
+    due(25, () -> hall.tax(0, 0, 3));
+    due(25, () -> hall.gets(0, 0, 1));
+    due(50, () -> hall.gets(0, 0, 3));
+  }
+
+  /** "out of the pool of a land": each land has taxes of its own, on its own pool. */
+  static void taxesByLands() {
+    Probatehall hall = hall('s', 1);
+    hall.land('s', 0, 9, false, false, false);
+    hall.person(10, 0, -1);
+    hall.person(0, -1, -1);
+    hall.marry(0, 2, 20);
+    hall.thing(0, 300, true, 0);
+    hall.thing(0, 600, true, 1);
+    hall.taxes(0, 10, 0);
+    hall.taxes(1, 50, 99);
+    hall.die(0, 50);
+    due(20, () -> hall.tax(0, 0, 1));
+    due(200, () -> hall.tax(0, 1, 1));
+    due(10, () -> hall.tax(0, 0, 2));
+    due(100, () -> hall.tax(0, 1, 2));
+    // Within the days of survival of the land 1 alone: the spouse by its law is none, and a clause makes an other.
+    hall.die(2, 55);
+    due(10, () -> hall.tax(0, 0, 2));
+    due(300, () -> hall.tax(0, 1, 1));
+    due(0, () -> hall.tax(0, 1, 2));
+    hall.will(0, 20, true);
+    hall.clause(0, 'r', 1, 2, -1);
+    due(30, () -> hall.tax(0, 0, 2));
+    due(594, () -> hall.tax(0, 1, 2));
   }
 
   static void taxesOfNothing() {

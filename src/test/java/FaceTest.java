@@ -11,9 +11,10 @@ import java.util.regex.Pattern;
 /** The class shows just the face that stands in ../shared/DOC.md: results, parameters and exceptions. */
 public final class FaceTest {
   public static void main(String[] args) throws Exception {
-    Set<String> due = faceOfDocument(Files.readString(Path.of("../shared/DOC.md")));
+    String document = Files.readString(Path.of("../shared/DOC.md"));
+    Set<String> due = faceOfDocument(document);
     Set<String> found = faceOfClass();
-    int wrong = 0;
+    int wrong = compareHeadings(document, Files.readString(Path.of("src/main/java/Probatehall.java")));
     for (String method : due) {
       wrong += report(found.contains(method), "missing: " + method);
     }
@@ -34,6 +35,25 @@ public final class FaceTest {
       System.out.println(what);
     }
     return holds ? 0 : 1;
+  }
+
+  /** "Ahead of the calls .. the interface says": each heading stands ahead of just these calls, in this order. */
+  private static int compareHeadings(String document, String source) {
+    int wrong = 0;
+    int headings = 0;
+    Matcher told = Pattern.compile("(?m)^Ahead of the calls (.*) the interface says: (---- .*)\\.$").matcher(document);
+    while (told.find()) {
+      headings++;
+      int start = source.indexOf("// " + told.group(2) + "\n");
+      int end = source.indexOf("// ----", start + 1);
+      StringBuilder calls = new StringBuilder();
+      String below = start < 0 ? "" : source.substring(start, end < 0 ? source.length() : end);
+      for (Matcher head = Pattern.compile("(?m)^  public \\w+ (\\w+)\\(").matcher(below); head.find();) {
+        calls.append(calls.length() == 0 ? "" : ", ").append('`').append(head.group(1)).append('`');
+      }
+      wrong += report(told.group(1).contentEquals(calls), "below " + told.group(2) + " stand " + calls);
+    }
+    return wrong + report(headings == 4, "the document's face has so many headings: " + headings);
   }
 
   /** Each member as the document writes it, without the names of parameters. */

@@ -1,5 +1,7 @@
 import java.nio.file.Files;
 import java.nio.file.Path;
+import java.util.HashSet;
+import java.util.Set;
 import java.util.regex.Matcher;
 import java.util.regex.Pattern;
 
@@ -12,6 +14,12 @@ public final class LanguageTest {
     "->", "::", "\\btry\\b", "\\bcatch\\b", "\\bfinally\\b", "\\bsynchronized\\b", "\\bassert\\b", "\\bnull\\b",
     "\\bprotected\\b", "\\bpackage\\b", "\"\\s*\\+", "\\+\\s*\"", "\\bequals\\b", "\\bhashCode\\b", "\\btoString\\b",
     "Exact\\b", "\\bSystem\\.(?!arraycopy)", "\\bstatic\\s*\\{", "\\bint\\[\\]\\[\\]", "\\bwhile\\s*\\(true"};
+
+  /** What the library gives, beside the classes inside the class. */
+  private static final Set<String> LIBRARY = Set.of("Integer.bitCount", "Math.max", "Math.min", "System.arraycopy");
+  private static final Set<String> EXCEPTIONS = Set.of("IllegalStateException", "IllegalArgumentException",
+      "IndexOutOfBoundsException", "ArithmeticException", "UnsupportedOperationException", "NoSuchElementException",
+      "RuntimeException");
 
   private static int wrong;
 
@@ -38,6 +46,9 @@ public final class LanguageTest {
     need(!statics.find(), "static state that is not final");
     need(code.split("\\bclass ").length - 1 <= MOST_CLASSES, "too many classes");
     compareNames(code);
+    compareLibrary(code);
+    measureParameters(code);
+    findObjectsMade(code);
     measureMethods(code.split("\n"));
     measureFields(code);
     System.out.println("rules of the language: " + wrong + " wrong");
@@ -60,6 +71,39 @@ public final class LanguageTest {
       need(bearers == 1, "so many methods of the name " + face.group(1) + ": " + bearers);
     }
     need(names == 31, "so many public methods: " + names);
+  }
+
+  /** Each name with a small letter behind a capital one is a class of our own, an exception or of the library. */
+  private static void compareLibrary(String code) {
+    Set<String> own = new HashSet<>();
+    for (Matcher head = Pattern.compile("\\bclass (\\w+)").matcher(code); head.find();) {
+      own.add(head.group(1));
+    }
+    String texts = code.replaceAll("\"[^\"\n]*\"", "\"\"").replaceAll("(?m)^import .*", "");
+    for (Matcher name = Pattern.compile("\\b[A-Z]\\w*[a-z]\\w*\\b(\\.\\w+)?").matcher(texts); name.find();) {
+      String found = name.group();
+      boolean known = own.contains(found) || EXCEPTIONS.contains(found) || LIBRARY.contains(found);
+      need(known, "not of the library that may be used: " + found);
+    }
+    need(Pattern.compile("\\bthrow\\b(?! new \\w+\\(\"[^\"]*\"\\);)").matcher(code).results().count() == 0,
+        "thrown otherwise than as a new exception with a written text");
+  }
+
+  private static void measureParameters(String code) {
+    Pattern form = Pattern.compile("(?m)^ {2,4}[\\w\\[\\] ]+\\(([^()]*)\\)[^;{]*\\{$");
+    for (Matcher head = form.matcher(code); head.find();) {
+      need(head.group(1).split(",").length <= 7, "too many parameters: " + head.group(1));
+    }
+  }
+
+  /** All rows are made with the object: no call makes more than the exception that it throws. */
+  private static void findObjectsMade(String code) {
+    String field = "    (private )?final [\\w\\[\\]]+ \\w+ = new \\w+[\\[(].*";
+    String made = "    (book|shares|estate) = new \\w+\\(\\);";
+    for (String line : code.split("\n")) {
+      boolean makes = line.contains("new ") && !line.contains("throw new ");
+      need(!makes || line.matches(field) || line.matches(made), "an object made by a call: " + line.strip());
+    }
   }
 
   private static void measureMethods(String[] lines) {

@@ -20,6 +20,8 @@ public final class RandomRunsTest {
     "livedIn", "takes", "spouse", "shareTop", "shareBottom", "governs", "inForce", "pool", "free", "paidOf",
     "claims", "gets", "tax", "paidShare", "meanValue", "isConsistent"};
   private static final int[] ASKING_OFTEN = {2, 3, 2, 5, 5, 3, 3, 2, 4, 4, 7, 12, 4, 1, 1, 1};
+  /** An object lives for 512 calls, and the wholes of one who has died ask 80 more at the most. */
+  private static final int CALLS = 432;
 
   private final Random random;
   private final Probatehall hall = new Probatehall();
@@ -30,6 +32,9 @@ public final class RandomRunsTest {
   private int things;
   private int debts;
   private int wills;
+  /** Of each debt, who owes it. */
+  private final List<Integer> owing = new ArrayList<>();
+  private final List<Integer> died = new ArrayList<>();
   private final int spanOfDays;
   private final int spanOfValues;
   private final boolean errs;
@@ -83,7 +88,7 @@ public final class RandomRunsTest {
   }
 
   private String run(Set<String> seen) {
-    for (int count = 0; count < 512; count++) {
+    for (int count = 0; count < CALLS; count++) {
       String name = count < 12 ? new String[] {"land", "person", "person"}[count % 3]
           : filling.isEmpty() ? nextOfFreeRun(count) : nextOfFillingRun(count - 12);
       int[] args = args(name);
@@ -94,9 +99,31 @@ public final class RandomRunsTest {
       if (!due.equals(found)) {
         return "call " + count + ", " + name + Arrays.toString(args) + " answered " + found + ", due is " + due;
       }
-      note(name, due);
+      note(name, args, due);
     }
-    return hall.isConsistent() ? null : "the hall is not consistent";
+    return lands == 0 || died.isEmpty() ? null : wholes(died.get(random.nextInt(died.size())), random.nextInt(lands));
+  }
+
+  /** What holds of the answers whatever the model says: shares are one together, and the pools are paid out. */
+  private String wholes(int dead, int land) {
+    HallModel.Fraction shares = HallModel.Fraction.ZERO;
+    int out = 0;
+    for (int person = -1; person < people; person++) {
+      long top = hall.shareTop(dead, land, person);
+      shares = shares.plus(HallModel.Fraction.of(top, hall.shareBottom(dead, land, person)));
+      out += hall.gets(dead, land, person);
+    }
+    int left = 0;
+    for (int each = 0; each < lands; each++) {
+      int free = hall.free(dead, each);
+      out -= each == land ? free : 0;
+      left += hall.pool(dead, each) - free;
+    }
+    for (int debt = 0; debt < debts; debt++) {
+      left -= owing.get(debt) == dead ? hall.paidOf(debt) : 0;
+    }
+    boolean hold = shares.equals(HallModel.Fraction.ONE) && out == 0 && left == 0 && hall.isConsistent();
+    return hold ? null : "the wholes of " + dead + " by the land " + land + " do not hold";
   }
 
   private String nextOfFreeRun(int count) {
@@ -133,7 +160,7 @@ public final class RandomRunsTest {
     }
   }
 
-  private void note(String name, Object due) {
+  private void note(String name, int[] args, Object due) {
     if (due instanceof Class) {
       return;
     }
@@ -142,7 +169,11 @@ public final class RandomRunsTest {
       case "person" -> people++;
       case "marry" -> marriages++;
       case "thing" -> things++;
-      case "debt" -> debts++;
+      case "debt" -> {
+        debts++;
+        owing.add(args[0]);
+      }
+      case "die" -> died.add(args[0]);
       case "will" -> wills++;
       default -> { }
     }
